@@ -19,6 +19,7 @@ public final class BarsTest {
         for (int what = 0; what < want.length; what++) {
             Due.due("19: bar(1, " + what + ")", x.bar(1, what), want[what]);
         }
+        Due.due("19: bar(0, 4) of one that is not good", Due.withBars(Due.RAW, 3, 2, 1).bar(0, 4), 0);
         int[][] bad = {{-1, 0}, {2, 0}, {0, -1}, {0, 7}, {LOW, 0}, {HIGH, 0}, {0, HIGH}};
         for (int[] b : bad) {
             Due.due("19: bar(" + b[0] + ", " + b[1] + ")", x.bar(b[0], b[1]), Due.BAD);
@@ -46,6 +47,8 @@ public final class BarsTest {
         x.beat(6);
         Due.due("20: recall(0) of those that have it", x.recall(0), 11 - 9);
         Due.due("20: recall(9) once more", x.recall(9), 11);
+        Due.due("20: recall(5) of none", x.recall(5), 0);
+        Due.due("20: a lot stays called back", x.count(6), 11);
         SweetLine y = Due.withBars(Due.PLAIN, 0, 1, 45);
         Due.due("20: only those that are kept", y.recall(1), 40);
         Due.due("20: count(6)", y.count(6), 40);

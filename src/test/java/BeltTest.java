@@ -105,9 +105,24 @@ public final class BeltTest {
         for (int what = 0; what < bar.length; what++) {
             Due.due("19: bar(0, " + what + ")", x.bar(0, what), bar[what]);
         }
-        x.beat(10);
+        x.beat(9);
         Due.due("16: no more bars", x.count(2), 1);
         Due.due("16: none is missed", x.count(4), 0);
+        usedAgain(x);
+    }
+
+    /** The mould that was turned out comes to STATION 0 with the next beat of 17. */
+    private static void usedAgain(SweetLine x) {
+        x.gear(1, 8);
+        x.fill(0, 0, 50, 0, 4);
+        Due.due("16: a second one", x.beat(1), 0);
+        dueMould(x, 0, 50, 0, 0, 45, 0, 0);
+        x.beat(1);
+        dueMould(x, 1, 50, 0, 0, 45, 1, 0);
+        x.beat(1);
+        dueMould(x, 2, 50, 8, 0, 45, 1, 0);
+        Due.due("16: bars of these beats alone", x.beat(8), 1);
+        Due.due("16: LOTS of these grams alone", x.bar(1, 3), 16);
     }
 
     /** Poured with 45 degrees, one degree taken in each cell: the cells are 3 to n - 3. */
@@ -233,6 +248,13 @@ public final class BeltTest {
         Due.due("16: third round, 18 degrees", x.beat(8), 1);
         Due.due("16: count(4)", x.count(4), 2);
         Due.due("16: its BEAT", x.bar(0, 5), 22);
+        SweetLine z = Due.told(Due.RAW);
+        z.gear(3, 9);
+        z.gear(4, 9);
+        z.gear(5, 8);
+        z.fill(0, 0, 50, 0, 0);
+        z.beat(7);
+        Due.due("16: 19 degrees is too warm", z.mould(6, 3), 19);
         SweetLine y = Due.told(Due.RAW);
         y.gear(3, 2);
         y.fill(0, 0, 50, 0, 0);

@@ -4,6 +4,7 @@ public final class RecipesTest {
         feed();
         reads();
         faults();
+        ends();
         limits();
         temper();
         temperRefuses();
@@ -75,6 +76,10 @@ public final class RecipesTest {
         dueFault(";", 0, 1);
         dueFault("recip 0 0;", 0, 1);
         dueFault("recipes 0 0;", 0, 1);
+        dueFault("recipea 0 0;", 0, 1);
+        dueFault("recipez 0 0;", 0, 1);
+        dueFault("decipe 0 0;", 0, 1);
+        dueFault("recipd 0 0;", 0, 1);
         dueFault("RECIPE 0 0;", 0, 1);
         dueFault("recipe", 6, 1);
         dueFault("recipe ", 7, 1);
@@ -111,6 +116,34 @@ public final class RecipesTest {
         dueFault("recipe 0 0 seed 1 seed 1 seed 1 seed 1 seed 1 seed 1 warm x;", 53, 3);
         dueFault("recipe 0 0 seed 1 seed 1 seed 1 seed 1 seed 1 seed 1 sed 1;", 53, 1);
         dueFault("recipe 0 0 seed 1 seed 1 seed 1 seed 1 seed 1 seed 1 1;", 53, 1);
+    }
+
+    private static void dueFaultOn(SweetLine x, String text, int place, int number) {
+        Due.feedText(x, text);
+        Due.due("7: recipes() of '" + text + "'", x.recipes(), -1000100 - place);
+        Due.due("8: fault() of '" + text + "'", x.fault(), number);
+    }
+
+    /** What was on the tape before is not read again, and a full tape ends where it ends. */
+    private static void ends() {
+        SweetLine x = Due.told("recipe 12 34 warm 33 30 seed 44;");
+        dueFaultOn(x, "recip", 0, 1);
+        dueFaultOn(x, "recipe 1", 8, 1);
+        dueFaultOn(x, "recipe 12 3", 11, 1);
+        dueFaultOn(x, "recipe 12 34 war", 13, 1);
+        Due.due("7: none came", x.count(1), 1);
+        String gap = " ".repeat(392);
+        dueFaultOn(x, gap + "recipe 1", 400, 1);
+        dueFaultOn(x, gap + "abcdefgh", 392, 1);
+        dueFaultOn(x, gap + "recipe 9".substring(0, 6) + "  ", 400, 1);
+        dueFaultOn(x, " ".repeat(393) + "recipe;", 399, 1);
+        Due.feedText(x, " ".repeat(389) + "recipe 0 0;");
+        Due.due("7: to the last of 400 bytes", x.recipes(), 2);
+        x = Due.told("recipe 0 0 seed 5 seed 5 seed 5 seed 5;");
+        dueFaultOn(x, "recipe 0 0 seed 9 seed 9 seed 9 x", 32, 1);
+        Due.feedText(x, "recipe 0 0 seed 7;");
+        Due.due("7: behind a text with a fault", x.recipes(), 2);
+        Due.due("7: its stages alone", x.temper(1, 30, 0, 1), 7);
     }
 
     private static void limits() {
@@ -166,6 +199,17 @@ public final class RecipesTest {
         dueTemper("recipe 0 0 warm 20 1;", 20, 831, 20, 998);
         dueTemper("recipe 0 0 warm 0 60;", 60, 0, 0, 443);
         dueTemper("recipe 0 0 warm 30 2;", 33, 100, 31, 105);
+        dueTemper("recipe 0 0 warm 30 1;", 30, 900, 30, 945);
+        dueTemper("recipe 0 0 warm 30 1;", 30, 919, 30, 964);
+        dueTemper("recipe 0 0 warm 30 1;", 30, 951, 30, 998);
+        dueTemper("recipe 0 0 warm 30 1;", 30, 952, 30, 999);
+        dueTemper("recipe 0 0 warm 30 1;", 30, 980, 30, 999);
+        dueTemper("recipe 0 0 warm 60 1;", 60, 999, 60, 699);
+        dueTemper("recipe 0 0 warm 60 1;", 60, 990, 60, 692);
+        dueTemper("recipe 0 0 warm 60 1;", 60, 980, 60, 685);
+        dueTemper("recipe 0 0 warm 0 1;", 0, 700, 0, 841);
+        dueTemper("recipe 0 0 warm 0 1;", 0, 704, 0, 845);
+        dueTemper("recipe 0 0 seed 1 seed 2 seed 3 seed 4 seed 5 seed 6;", 30, 0, 30, 21);
         dueTemper("recipe 0 0 warm 30 9;", 30, 0, 30, 0);
         dueTemper("recipe 0 0 seed 50 seed 50;", 30, 0, 30, 100);
         dueTemper("recipe 0 0 seed 50 seed 50;", 30, 898, 30, 998);

@@ -61,6 +61,12 @@ public final class SheetsTest {
         x.set(7, 1, 5);
         x.sheet(7, 2, 3);
         x.sheet(6, 2, 3);
+        x.set(5, 0, 9);
+        x.sheet(5, 2, 3);
+        x.set(5, 0, 16);
+        x.sheet(5, 2, 3);
+        x.set(5, 1, 1);
+        Due.due("2: ITEM 0 is 0 at first", x.orders(5, 0, 1, -1), 1);
         Due.due("2: ITEMS are 0 at first (hours 0)", x.orders(7, 0, 1, -1), Due.BAD);
         x.set(7, 1, 5);
         Due.due("2: ITEMS are 0 at first (due 0)", x.orders(7, 0, 1, -1), 5);
