@@ -62,11 +62,9 @@ public final class SweetLine {
             return BAD;
         }
         Sheet s = sheets[sheet];
-        if (s.missing) {
-            return found(FOUND_NULL);
-        }
-        if (!s.has(i, 1)) {
-            return found(FOUND_PLACE);
+        int amiss = amissIn(s, i, 1);
+        if (amiss != 0) {
+            return found(amiss);
         }
         s.items[i] = s.narrowed(v);
         return plain(s.items[i]);
@@ -129,7 +127,8 @@ public final class SweetLine {
     }
 
     public int temper(int recipe, int warmth, int seeds, int what) {
-        if (!isRecipe(recipe) || !within(warmth, 0, 60) || !within(seeds, 0, Heat.MOST_SEEDS)) {
+        if (!isRecipe(recipe) || !within(warmth, 0, 60) || !within(seeds, 0, Heat.MOST_SEEDS)
+                || !within(what, 0, 3)) {
             return BAD;
         }
         trial.begin(warmth, seeds);
@@ -138,8 +137,7 @@ public final class SweetLine {
             case 0: return trial.warmth;
             case 1: return trial.seeds;
             case 2: return trial.state();
-            case 3: return trial.thickness();
-            default: return BAD;
+            default: return trial.thickness();
         }
     }
 
@@ -326,11 +324,9 @@ public final class SweetLine {
             return BAD;
         }
         Sheet s = sheets[sheet];
-        if (s.missing) {
-            return found(FOUND_NULL);
-        }
-        if (!s.has(i, 2 * n)) {
-            return found(FOUND_PLACE);
+        int amiss = amissIn(s, i, 2 * n);
+        if (amiss != 0) {
+            return found(amiss);
         }
         int used = 0;
         for (int k = i; k < i + 2 * n; k += 2) {
@@ -353,11 +349,9 @@ public final class SweetLine {
             return BAD;
         }
         Sheet s = sheets[sheet];
-        if (s.missing) {
-            return found(FOUND_NULL);
-        }
-        if (!s.has(i, 3 * n)) {
-            return found(FOUND_PLACE);
+        int amiss = amissIn(s, i, 3 * n);
+        if (amiss != 0) {
+            return found(amiss);
         }
         if (!takeOrders(s, i, n)) {
             return BAD;
@@ -445,6 +439,14 @@ public final class SweetLine {
     private int found(int number) {
         finding = number;
         return FINDING - number;
+    }
+
+    /** The finding of n items from i on, or 0. */
+    private static int amissIn(Sheet s, int i, int n) {
+        if (s.missing) {
+            return FOUND_NULL;
+        }
+        return s.has(i, n) ? 0 : FOUND_PLACE;
     }
 
     private int plain(int answer) {
@@ -568,7 +570,7 @@ public final class SweetLine {
     /** The bytes that were fed, and the token that stands at the reading place. */
     private static final class Tape {
         static final int MOST = 400, MOST_FIGURES = 4;
-        static final int END = 0, NAME = 1, NUMBER = 2, SIGN = 3, NO_TOKEN = 4;
+        static final int END = 0, NAME = 1, NUMBER = 2, SIGN = 3, GAP = 4, NO_TOKEN = 5;
 
         final byte[] bytes = new byte[MOST];
         int length;
@@ -595,19 +597,18 @@ public final class SweetLine {
 
         void step() {
             start = end;
-            while (start < length && isGap(bytes[start])) {
+            while (start < length && kindOf(bytes[start]) == GAP) {
                 start++;
             }
             end = start;
-            if (start >= length) {
-                token = END;
-            } else if (isLetter(bytes[start])) {
-                takeName();
-            } else if (isFigure(bytes[start])) {
-                takeNumber();
-            } else {
-                token = bytes[start] == ';' ? SIGN : NO_TOKEN;
-                end = start + 1;
+            token = start < length ? kindOf(bytes[start]) : END;
+            boolean isRun = token == NAME || token == NUMBER;
+            int most = isRun ? length : Math.min(length, start + 1);
+            while (end < most && kindOf(bytes[end]) == token) {
+                end++;
+            }
+            if (token == NUMBER) {
+                takeFigures();
             }
         }
 
@@ -623,35 +624,29 @@ public final class SweetLine {
             return true;
         }
 
-        private void takeName() {
-            token = NAME;
-            while (end < length && isLetter(bytes[end])) {
-                end++;
+        private void takeFigures() {
+            // A longer row of figures is no token at all, not a number out of its range.
+            if (end - start > MOST_FIGURES) {
+                token = NO_TOKEN;
+                return;
             }
-        }
-
-        private void takeNumber() {
             number = 0;
-            while (end < length && isFigure(bytes[end])) {
-                // A longer row of figures is no token, so its value is not needed and must not wrap.
-                if (end - start < MOST_FIGURES) {
-                    number = number * 10 + (bytes[end] - '0');
-                }
-                end++;
+            for (int k = start; k < end; k++) {
+                number = number * 10 + (bytes[k] - '0');
             }
-            token = end - start <= MOST_FIGURES ? NUMBER : NO_TOKEN;
         }
 
-        private static boolean isGap(byte b) {
-            return b == 32 || b == 10;
-        }
-
-        private static boolean isLetter(byte b) {
-            return b >= 'a' && b <= 'z';
-        }
-
-        private static boolean isFigure(byte b) {
-            return b >= '0' && b <= '9';
+        private static int kindOf(byte b) {
+            if (b >= 'a' && b <= 'z') {
+                return NAME;
+            }
+            if (b >= '0' && b <= '9') {
+                return NUMBER;
+            }
+            if (b == 32 || b == 10) {
+                return GAP;
+            }
+            return b == ';' ? SIGN : NO_TOKEN;
         }
     }
 
@@ -1038,7 +1033,7 @@ public final class SweetLine {
     /** Orders, and the best row of them. */
     private static final class Rows {
         static final int MOST = 7;
-        static final int CLEANING_HOURS = 3, CLEANING_COST = 5;
+        static final int CLEANING_HOURS = 3, CLEANING_COST = 5, ABOVE_ALL_COSTS = 1000000;
 
         final int[] allergens = new int[MOST];
         final int[] hours = new int[MOST];
@@ -1050,7 +1045,7 @@ public final class SweetLine {
 
         void findBest(int orders) {
             n = orders;
-            bestCost = Integer.MAX_VALUE;
+            bestCost = ABOVE_ALL_COSTS;
             extend(this, 0, 0, 0, 0);
         }
 
