@@ -31,6 +31,13 @@ final class Due {
         }
     }
 
+    /** Numbers that are not of least to most: just outside, the ends of int, and what wraps into it. */
+    static int[] outside(int least, int most) {
+        int[] all = {least - 1, most + 1, Integer.MIN_VALUE, Integer.MAX_VALUE, least + 256, most - 256, least + 65536,
+            most - 65536, least + (1 << 30), least + (1 << 31), most + (1 << 31)};
+        return java.util.Arrays.stream(all).filter(v -> v < least || v > most).toArray();
+    }
+
     static int feedText(SweetLine x, String text) {
         int length = x.count(7);
         for (int i = 0; i < text.length(); i += 8) {
