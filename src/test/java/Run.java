@@ -8,6 +8,10 @@ import java.util.Map;
 
 /** Calls by their names, kept so that they can be made again on as many new objects as are needed. */
 final class Run {
+    /** In the order of the document: the first of them is promise 2. */
+    private static final List<String> PROMISED = List.of("sheet", "set", "copy", "drop", "feed", "recipes", "fault",
+        "temper", "fill", "ready", "drain", "tank", "belt", "gear", "beat", "mould", "correct", "bar", "recall", "melt",
+        "bin", "grams", "bloom", "orders", "kind", "as", "ask", "trace", "count", "status");
     private static final Map<String, Method> FACE = new HashMap<>();
 
     static {
@@ -73,6 +77,10 @@ final class Run {
         } catch (IllegalAccessException e) {
             throw new IllegalStateException(e);
         }
+    }
+
+    static int promise(String name) {
+        return PROMISED.indexOf(name) + 2;
     }
 
     static String told(String name, long... a) {

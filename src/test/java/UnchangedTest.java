@@ -41,13 +41,14 @@ public final class UnchangedTest {
     private void refused(int answer, String name, long... a) {
         String call = Run.told(name, a);
         SweetLine x = run.play();
-        Due.due(call, Run.make(x, name, a), answer);
+        Due.due(Run.promise(name) + ": " + call, Run.make(x, name, a), answer);
         Due.due("31: status() behind " + call, x.status(), answer <= Due.NULL ? -1000010 - answer : statusBefore);
         Map<String, Integer> after = Seen.of(run.more().then(name, a));
-        Due.due("seen behind " + call, after.size(), before.size());
+        Due.due(Run.promise(name) + ": how much is seen behind " + call, after.size(), before.size());
         for (Map.Entry<String, Integer> seen : before.entrySet()) {
             Integer now = after.get(seen.getKey());
-            Due.due("Terms: " + seen.getKey() + " behind " + call, now == null ? 0 : now, seen.getValue());
+            String label = Run.promise(name) + ": " + call + " leaves " + seen.getKey();
+            Due.due(label, now == null ? 0 : now, seen.getValue());
         }
     }
 
