@@ -385,7 +385,7 @@ public final class SweetLine {
         traced = 0;
         Bar b = bars.rack[bar];
         int told = toldKind(b);
-        return body(what == 0 ? SIZE_BODY[told] : MARK_BODY[told], b, told, 0);
+        return body(this, what == 0 ? SIZE_BODY[told] : MARK_BODY[told], b, told, 0);
     }
 
     public int trace(int i) {
@@ -501,26 +501,30 @@ public final class SweetLine {
         return nuts ? KIND_NUTTY : KIND_FILLED;
     }
 
-    /** What the body of that number gives for a bar of a kind. */
-    private int body(int number, Bar b, int told, int depth) {
+    /** What the body of that number gives for a bar of a kind; it leaves its number in the trace of x. */
+    private static int body(SweetLine x, int number, Bar b, int told, int depth) {
         if (depth >= DEEPEST_BODY) {
             return 0;
         }
+        x.leaveNumber(number);
+        int deeper = depth + 1;
+        switch (number) {
+            case 11: return body(x, 10, b, told, deeper) + b.filling;
+            case 12: return 2 * body(x, 11, b, told, deeper);
+            case 13: return body(x, 10, b, told, deeper) - body(x, MARK_BODY[told], b, told, deeper);
+            case 14: return -body(x, 10, b, told, deeper);
+            case 20: return b.beat;
+            case 21: return body(x, 20, b, told, deeper) + 1000;
+            case 22: return body(x, 21, b, told, deeper) + body(x, SIZE_BODY[told], b, told, deeper);
+            case 23: return body(x, 20, b, told, deeper) + b.lots;
+            default: return b.chocolate;
+        }
+    }
+
+    private void leaveNumber(int number) {
         if (traced < TRACED) {
             traceNumbers[traced] = number;
             traced++;
-        }
-        int deeper = depth + 1;
-        switch (number) {
-            case 11: return body(10, b, told, deeper) + b.filling;
-            case 12: return 2 * body(11, b, told, deeper);
-            case 13: return body(10, b, told, deeper) - body(MARK_BODY[told], b, told, deeper);
-            case 14: return -body(10, b, told, deeper);
-            case 20: return b.beat;
-            case 21: return body(20, b, told, deeper) + 1000;
-            case 22: return body(21, b, told, deeper) + body(SIZE_BODY[told], b, told, deeper);
-            case 23: return body(20, b, told, deeper) + b.lots;
-            default: return b.chocolate;
         }
     }
 
